@@ -111,7 +111,7 @@ public final class FirstAsleep {
             return tape.faultKind - FAULT_LESS;
         }
         works.keep(real.now);
-        plan.carryOut(real);
+        plan.carryOut(real, 0, plan.size, 0);
         refusedSteps = plan.refused;
         return plan.done;
     }
@@ -690,20 +690,20 @@ public final class FirstAsleep {
 
         boolean take(char sign) {
             if (next() != sign) {
-                return failHere(CANNOT_STAND);
+                return fail(CANNOT_STAND, at);
             }
             at++;
             return true;
         }
 
         boolean nothingMore() {
-            return next() == END || failHere(CANNOT_STAND);
+            return next() == END || fail(CANNOT_STAND, at);
         }
 
         /** A number in these bounds; NONE behind a fault. */
         int number(int least, int most) {
             if (!isDigit(next())) {
-                failHere(CANNOT_STAND);
+                fail(CANNOT_STAND, at);
                 return NONE;
             }
             began = at;
@@ -1049,15 +1049,12 @@ public final class FirstAsleep {
                         stack[top - 1] = join(what, stack[top - 1], stack[top]);
                     }
                 } else if (top < stack.length) {
-                    stack[top] = what < FIRST_GIVEN ? what : pick(given, what - FIRST_GIVEN);
+                    int which = what - FIRST_GIVEN;
+                    stack[top] = which >= 0 && which < given.length ? given[which] : what;
                     top++;
                 }
             }
             return top > 0 ? stack[0] : 0;
-        }
-
-        private static int pick(int[] given, int which) {
-            return which >= 0 && which < given.length ? given[which] : 0;
         }
 
         private static int join(int sign, int a, int b) {
@@ -1066,8 +1063,8 @@ public final class FirstAsleep {
                 case MINUS: return a - b;
                 case TIMES: return a * b;
                 case BY: return b == 0 ? 0 : a / b;
-                case LEAST: return Math.min(a, b);
-                default: return Math.max(a, b);
+                case LEAST: return a < b ? a : b;
+                default: return a > b ? a : b;
             }
         }
     }
@@ -1088,13 +1085,16 @@ public final class FirstAsleep {
         private final int[] kinds = new int[WORK_BYTES];
         private final int[] first = new int[WORK_BYTES];
         private final int[] second = new int[WORK_BYTES];
-        private int size = 0;
+        int size = 0;
         private int begun = 0;
         int done = 0;
         int refused = 0;
 
         boolean read(Tape text, int sleepers) {
             size = 0;
+            begun = 0;
+            done = 0;
+            refused = 0;
             return readSteps(text, sleepers, 0) && text.nothingMore();
         }
 
@@ -1163,14 +1163,8 @@ public final class FirstAsleep {
             return true;
         }
 
-        void carryOut(Night night) {
-            begun = 0;
-            done = 0;
-            refused = 0;
-            carryOutPart(night, 0, size, 0);
-        }
-
-        private void carryOutPart(Night night, int from, int to, int depth) {
+        /** Does the steps from one place up to another; what would come behind the 240th begun is left out. */
+        void carryOut(Night night, int from, int to, int depth) {
             int goOn = from;
             for (int i = from; i < to && i < kinds.length && begun < MOST_BEGUN; i++) {
                 if (i < goOn) {
@@ -1178,22 +1172,15 @@ public final class FirstAsleep {
                 }
                 begun++;
                 if (kinds[i] == AGAIN) {
-                    carryOutAgain(night, i, depth);
+                    for (int n = 0; n < first[i] && depth < MOST_OPEN && begun < MOST_BEGUN; n++) {
+                        carryOut(night, i + 1, second[i], depth + 1);
+                    }
                     goOn = second[i];
                 } else if (night.perform(kinds[i], first[i], second[i])) {
                     done++;
                 } else {
                     refused++;
                 }
-            }
-        }
-
-        private void carryOutAgain(Night night, int i, int depth) {
-            if (depth >= MOST_OPEN) {
-                return;
-            }
-            for (int n = 0; n < first[i] && begun < MOST_BEGUN; n++) {
-                carryOutPart(night, i + 1, second[i], depth + 1);
             }
         }
     }
@@ -1348,7 +1335,7 @@ public final class FirstAsleep {
             given[Law.DEPTH] = now[DEPTH + p];
             given[Law.TIRED] = now[TIRED + p];
             given[Law.MINUTE] = now[MINUTE];
-            return loudByGiven();
+            return bounded(laws[LOUD].value(given));
         }
 
         int loudBy(int snores, int wine, int cold, int depth, int tired) {
@@ -1356,10 +1343,12 @@ public final class FirstAsleep {
             given[Law.WINE] = wine;
             given[Law.COLD] = cold;
             given[Law.LIGHT] = 0;
+            given[Law.HEARD] = 0;
+            given[Law.AWAKE] = 0;
             given[Law.DEPTH] = depth;
             given[Law.TIRED] = tired;
             given[Law.MINUTE] = 0;
-            return loudByGiven();
+            return bounded(laws[LOUD].value(given));
         }
 
         /** How loud one would be in a minute, had he slept from the beginning and snored so. */
@@ -1369,7 +1358,7 @@ public final class FirstAsleep {
             given[Law.DEPTH] = Math.min(MOST_DEPTH, minute + 1);
             given[Law.TIRED] = Math.max(0, home.tired[p] - minute);
             given[Law.MINUTE] = minute;
-            return loudByGiven();
+            return bounded(laws[LOUD].value(given));
         }
 
         private void giveTold(int p) {
@@ -1377,12 +1366,12 @@ public final class FirstAsleep {
             given[Law.WINE] = home.wine[p];
             given[Law.COLD] = home.cold[p];
             given[Law.LIGHT] = home.light[p];
-        }
-
-        private int loudByGiven() {
             given[Law.HEARD] = 0;
             given[Law.AWAKE] = 0;
-            return Math.max(0, Math.min(MOST_LOUD, laws[LOUD].value(given)));
+        }
+
+        private static int bounded(int loud) {
+            return Math.max(0, Math.min(MOST_LOUD, loud));
         }
 
         private boolean falls(int p) {

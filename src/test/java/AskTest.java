@@ -9,8 +9,11 @@ public final class AskTest {
         sleptSleepsMost();
         heads();
         hurrying();
+        hurryByAllChoices();
         hurryOfOneAsleep();
         nudging();
+        nudgingInTheSixthMinute();
+        mostOfAll();
         roomsToBeIn();
         turns();
         fitsAndListen();
@@ -131,6 +134,24 @@ public final class AskTest {
         check.same("hurry: both together", late.hurry(0, 1, 2, 9, 2), 4 + 2);
     }
 
+    private static void hurryByAllChoices() {
+        FirstAsleep x = Check.of("sleeper 3 6 1 0;sleeper 4 0 2 0;clock 3 9;");
+        check.same("hurry by 8 of nothing: all rest", x.hurry(0, 1, 8, 0, 0), 81);
+        check.same("the least first", x.hurry(0, 1, 8, 0, 1), 0);
+        check.same("the pair that rests by 2", x.hurry(0, 1, 2, 9, 1), 200);
+        check.same("by 0 there is one, whatever was asked ahead", x.hurry(0, 1, 0, 9, 0), 1);
+        // he who is awake for 8 minutes hears the last of six strokes
+        FirstAsleep y = Check.of("sleeper 40 0 0 0;sleeper 40 20 0 0;clock 2 9;clock 4 9;clock 6 9;clock 8 9;");
+        Check.law(y, 1, "heard + 1");
+        for (int k = 0; k <= 8; k++) {
+            int due = 0;
+            for (int a = 1; a <= k; a++) {
+                due = y.reads(0, 1, a, 0, 9) > y.reads(0, 1, due, 0, 9) ? a : due;
+            }
+            check.same("the best of one's own by " + k, y.hurry(0, 1, k, 9, 1), 100 * due);
+        }
+    }
+
     private static void hurryOfOneAsleep() {
         // one who sleeps now, wakes by the stroke of minute 3 and reads on for 6 does not fall asleep in these
         FirstAsleep x = Check.of("sleeper 40 0 0 0;sleeper 0 0 0 0;clock 3 40;");
@@ -156,6 +177,36 @@ public final class AskTest {
         int set = y.nudges(0, 1, 12, 1);
         check.holds("bits of six minutes", set >= 0 && set < 64);
         check.holds("never fewer than without", y.nudges(0, 1, 12, 0) >= y.slept(12));
+    }
+
+    /** He falls asleep only when he hears nothing, and from minute 8 on; the other lies on his side for one minute. */
+    private static void nudgingInTheSixthMinute() {
+        FirstAsleep x = Check.of("sleeper 0 20 0 0;sleeper 40 0 9 0;over 1;");
+        Check.law(x, 1, "snores + least[1, minute - 7] - heard");
+        Check.work(x, "minute;minute;");
+        check.same("the seventh minute is too late", x.nudges(0, 1, 10, 1), 0);
+        check.same("he does not sleep", x.nudges(0, 1, 10, 0), 10);
+        Check.work(x, "minute;");
+        check.same("the sixth minute is the sixth bit", x.nudges(0, 1, 10, 1), 32);
+        check.same("he sleeps from the seventh on", x.nudges(0, 1, 10, 0), 10 + 4);
+    }
+
+    /** What is found only at the end of what is tried. */
+    private static void mostOfAll() {
+        FirstAsleep x = Check.of(PAIR);
+        Check.law(x, 1, "1");
+        check.same("the other one falls asleep as soon as he may", x.best(0, 60), 30);
+        check.same("so much is slept till then", x.head(0, 30, 60), 30);
+        FirstAsleep y = Check.of("sleeper 40 20 9 0;sleeper 0 20 0 1;");
+        Check.law(y, 0, "snores * 9");
+        Check.law(y, 1, "snores + least[1, minute - 3] - heard");
+        check.same("he bears nothing through the wall", y.wall(10), 40);
+        FirstAsleep z = Check.of("sleeper 40 20 9 0;sleeper 0 20 0 0;");
+        Check.law(z, 0, "20");
+        Check.law(z, 1, "snores + least[1, minute - 3] - heard");
+        check.same("he bears nothing behind his plugs", z.plugs(1, 3, 10), 20);
+        Check.law(z, 0, "21");
+        check.same("no plugs take off 21", z.plugs(1, 3, 10), -1);
     }
 
     private static void roomsToBeIn() {
@@ -225,6 +276,13 @@ public final class AskTest {
         check.same("listen: at the worst", x.listen(0, 1), 5);
         Check.law(x, 0, "minute / 239 * snores");
         check.same("the last minute", x.listen(0, 0), 239);
+        Check.law(x, 0, "minute / 240 * snores");
+        check.same("there is no minute 240", x.listen(0, 1), 10);
+        Check.book(x, "");
+        Check.law(x, 0, "39 + snores / 2 * minute");
+        check.same("40 at most is heard: two by 39, eight by 40", x.listen(0, 1), 8);
+        Check.law(x, 0, "snores / 9 * 40");
+        check.same("nine by 0, one by 40", x.listen(0, 1), 9);
         check.noSleeper("fits(1)", () -> x.fits(1));
         check.noSleeper("listen(1, 5)", () -> x.listen(1, 5));
         check.badArgument("listen(0, 2)", () -> x.listen(0, 2));

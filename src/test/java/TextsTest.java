@@ -107,6 +107,7 @@ public final class TextsTest {
         houseFault("sleeper 0 0 0 2;", 2, 14);
         houseFault("wine 0 0;sleeper 0 0 0 0;", 2, 5);
         houseFault("sleeper 0 0 0 0;cold 0 10;", 2, 23);
+        houseFault("sleeper 0 0 0 0;wine 0 10;", 2, 23);
         houseFault("sleeper 0 0 0 0;cold 1 1;", 2, 21);
         houseFault("sleeper 0 0 0 0;plug 0 21;", 2, 23);
         houseFault("sleeper 0 0 0 0;owes 0 241;", 2, 23);
@@ -196,6 +197,7 @@ public final class TextsTest {
         check.same("it wraps again", lawValue("999*999*999*999*999/999/999/99"), Math.max(0, Math.min(40, below)));
         check.same("the least number by -1", lawValue("(0-2)*512*512*512*8*2/(0-1)+7"), 7);
         check.same("six open", lawValue("((((((8))))))"), 8);
+        check.same("six open in the first place", lawValue("least[least[least[least[least[least[1,2],3],4],5],6],7]"), 1);
         check.same("opened again", lawValue("((((((1))))))+((((((2))))))"), 3);
         check.same("many open values",
             lawValue("1+1*least[99,1+1*least[99,1+1*least[99,1+1*least[99,1+1*least[99,1+1*least[99,1+1*2]]]]]]"), 9);
@@ -236,6 +238,8 @@ public final class TextsTest {
         lawFault("((( ((( most[1,2]", 3, 8);
         lawFault("least[1,least[1,least[1,least[1,least[1,least[1, ( 1", 3, 49);
         lawFault("((((((lest", 1, 6);
+        lawFault("least[least[least[least[least[least[(1", 3, 36);
+        lawFault("most[(most[(most[(most[1", 3, 18);
     }
 
     private static void lawBounds() {

@@ -58,6 +58,9 @@ public final class WorkTest {
     }
 
     private static void minuteOfOneAsleep() {
+        FirstAsleep two = Check.of("sleeper 0 0 0 0;sleeper 9 0 0 0;owes 1 3;");
+        Check.work(two, "minute;minute;minute;");
+        is("what the second needs still", two, 1, "7 0 0 0 3 0 2 0 0 1");
         FirstAsleep x = Check.of("sleeper 5 0 0 0;owes 0 4;");
         Check.work(x, "minute;minute;");
         is("slept a minute", x, 0, "4 0 0 0 2 0 1 0 0 3");
@@ -398,6 +401,40 @@ public final class WorkTest {
         Check.work(x, "call 0;");
         check.same("none is left", x.restore(), -1);
         check.same("and nothing changed", x.told(6), 1);
+        FirstAsleep y = Check.of("sleeper 0 0 0 0;");
+        Check.work(y, "room 0;");
+        y.image();
+        y.undo();
+        Check.work(y, "minute;");
+        Check.work(y, "minute;");
+        y.undo();
+        y.undo();
+        Check.work(y, "turn 0;minute;");
+        Check.work(y, "minute;");
+        y.restore();
+        is("restored", y, 0, "0 0 0 1 0 0 0 0 0 0");
+        y.undo();
+        is("undone as it was in the image", y, 0, "0 0 0 0 0 0 0 0 0 0");
+        FirstAsleep z = Check.of("sleeper 0 0 0 0;");
+        Check.work(z, "minute;");
+        Check.work(z, "minute;");
+        z.image();
+        z.undo();
+        z.undo();
+        Check.work(z, "turn 0;");
+        Check.work(z, "turn 0;");
+        z.restore();
+        z.undo();
+        is("the second of the image's works", z, 0, "1 0 0 0 0 0 0 1 0 0");
+        z.undo();
+        is("the first of the image's works", z, 0, "0 0 0 0 0 0 0 0 0 0");
+        Check.work(z, "turn 0;");
+        z.image();
+        z.undo();
+        Check.work(z, "room 0;");
+        Check.work(z, "plug 0 3;");
+        z.restore();
+        is("restored again", z, 0, "0 0 0 0 0 1 0 0 0 0");
     }
 
     private static void statusAndCount() {
