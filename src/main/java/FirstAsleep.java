@@ -926,6 +926,7 @@ public final class FirstAsleep {
         private static final int BY = 2003;
         private static final int LEAST = 2004;
         private static final int MOST = 2005;
+        // snores * 2 + wine + cold, and tired / 4 - heard, each sign behind what it joins
         private static final int[] LOUD_WITHOUT = {1000, 2, 2002, 1001, 2000, 1002, 2000};
         private static final int[] FALLS_WITHOUT = {1004, 4, 2003, 1005, 2001};
 

@@ -61,6 +61,12 @@ public final class WorkTest {
         FirstAsleep two = Check.of("sleeper 0 0 0 0;sleeper 9 0 0 0;owes 1 3;");
         Check.work(two, "minute;minute;minute;");
         is("what the second needs still", two, 1, "7 0 0 0 3 0 2 0 0 1");
+        Check.work(two, "call 1;nudge 0 1;turn 1;room 1;plug 1 2;");
+        is("awake, on his side, elsewhere", two, 1, "7 0 0 1 0 1 2 0 2 1");
+        Check.law(two, 1, "0");
+        Check.work(two, "minute;minute;");
+        is("the second is awake for two minutes", two, 1, "9 0 0 1 0 1 2 2 2 1");
+        is("the first for all five", two, 0, "5 0 0 0 0 0 0 5 0 0");
         FirstAsleep x = Check.of("sleeper 5 0 0 0;owes 0 4;");
         Check.work(x, "minute;minute;");
         is("slept a minute", x, 0, "4 0 0 0 2 0 1 0 0 3");
