@@ -1491,9 +1491,10 @@ public final class FirstAsleep {
             return sleptByAll() - before;
         }
 
+        /** Cars are drawn for all n minutes, also where the night has none left to pass. */
         void passWithCars(int seed, int q, int loud, int n) {
             int drawn = seed;
-            for (int i = 0; i < n && now[MINUTE] < LAST_MINUTE; i++) {
+            for (int i = 0; i < n; i++) {
                 drawn = drawn * 1103515245 + 12345;
                 boolean car = (drawn >>> 16 & 32767) % SIXTEEN < q;
                 cars += car ? 1 : 0;

@@ -358,8 +358,16 @@ public final class AskTest {
         check.same("ahead of plugs: nobody woke", y.nights(5, 16, 9, 4, 1), 0);
         check.same("a negative seed", y.nights(-123456, 8, 9, 200, 2), carsOf(-123456, 8, 200));
         FirstAsleep z = atMinute("sleeper 40 0 0 0;", 238);
-        check.same("as far as there are minutes: cars", z.nights(5, 16, 0, 240, 2), 2);
+        check.same("cars for all n", z.nights(5, 16, 0, 240, 2), 240);
+        check.same("cars drawn for all n", z.nights(5, 3, 0, 100, 2), carsOf(5, 3, 100));
         check.same("as far as there are minutes: slept", z.nights(5, 16, 0, 240, 0), 2);
+        check.same("behind the last minute none wakes", z.nights(5, 16, 40, 240, 1), 1);
+        FirstAsleep last = atMinute("sleeper 40 0 0 0;", 240);
+        check.same("no minute left: cars", last.nights(-9, 5, 40, 50, 2), carsOf(-9, 5, 50));
+        check.same("no minute left: slept", last.nights(-9, 16, 40, 50, 0), 0);
+        check.same("no minute left: woke", last.nights(-9, 16, 40, 50, 1), 0);
+        check.same("no minute left: asleep", last.nights(-9, 16, 40, 50, 3), 1);
+        check.same("no minute left: span", last.span(-9, 20, 16, 40, 50, 2), 20);
     }
 
     private static int carsOf(int seed, int q, int n) {

@@ -980,7 +980,7 @@ final class Model {
         World trial = world.copy();
         long s = seed & 0xffffffffL;
         int cars = 0;
-        for (int i = 0; i < n && trial.minute < 240; i++) {
+        for (int i = 0; i < n; i++) {
             s = (s * 1103515245L + 12345L) & 0xffffffffL;
             boolean car = (s / 65536 % 32768) % 16 < q;
             cars += car ? 1 : 0;
