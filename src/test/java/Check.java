@@ -3,6 +3,7 @@ final class Check {
     private final String name;
     private int checks = 0;
     private int wrong = 0;
+    private String ahead = "";
 
     Check(String name) {
         this.name = name;
@@ -16,8 +17,13 @@ final class Check {
         checks++;
         if (got != want) {
             wrong++;
-            System.out.println(what + " answered " + got + ", due is " + want);
+            System.out.println(ahead + what + " answered " + got + ", due is " + want);
         }
+    }
+
+    /** What follows is about one sentence of the document: it is told ahead of each answer that is wrong. */
+    void about(String sentence) {
+        ahead = "'" + sentence + "': ";
     }
 
     void holds(String what, boolean so) {
@@ -36,7 +42,7 @@ final class Check {
             got = e.getClass().getName();
         }
         wrong++;
-        System.out.println(what + " gave " + got + ", due is " + due.getName());
+        System.out.println(ahead + what + " gave " + got + ", due is " + due.getName());
     }
 
     void noSleeper(String what, Call call) {
