@@ -77,6 +77,13 @@ final class EdgeAsk {
             ask(x, i);
             edge.stays("behind " + names[i], before, x);
         }
+        FirstAsleep y = Check.of(QUIET);
+        y.reads(0, 1, 60, 60, 120);
+        edge.same("nobody reads on", y.slept(10), 18);
+        y.head(1, 30, 120);
+        edge.same("nobody is kept awake: the first", y.soon(0), 1);
+        y.head(0, 30, 120);
+        edge.same("nobody is kept awake: the second", y.soon(1), 1);
     }
 
     private static long ask(FirstAsleep x, int which) {
@@ -163,6 +170,8 @@ final class EdgeAsk {
         // one who sleeps for a while, and again later: the first time counts
         FirstAsleep z = Check.of("sleeper 40 0 0 0;clock 1 40;");
         edge.same("the first of several", z.soon(0), 1);
+        edge.same("just tired enough, hearing nothing", Check.of("sleeper 4 0 0 0;").soon(0), 1);
+        edge.same("not tired enough by one", Check.of("sleeper 3 0 0 0;").soon(0), 2);
     }
 
     private void slept() {
@@ -209,6 +218,16 @@ final class EdgeAsk {
             edge.same("its head", x.head(0, d[1], d[0]), Math.min(30, Math.max(0, d[0] - 1)));
         }
         edge.same("alike: the least", Check.of(ONE).best(0, 240), 0);
+        edge.same("each later one is worse", Check.of(QUIET).best(0, 240), 0);
+        // the second is woken by what strikes in minute 5, unless he falls asleep there
+        FirstAsleep y = with("sleeper 0 20 0 0;sleeper 0 0 0 0;plug 0 20;clock 5 40;", "", "most[1 - minute, awake - 4]");
+        edge.same("by 0", y.head(0, 0, 7), 6 + 4);
+        edge.same("by 1", y.head(0, 1, 7), 6 + 1);
+        edge.same("so the best is 0", y.best(0, 7), 0);
+        edge.same("by 1, in 12", y.head(0, 1, 12), 11 + 6);
+        edge.same("by 0, in 12", y.head(0, 0, 12), 11 + 4);
+        edge.same("by 6, in 12", y.head(0, 6, 12), 11 + 5);
+        edge.same("so the best is 1", y.best(0, 12), 1);
     }
 
     /** Whoever falls asleep in minute 0 does so at once, else when awake for 4; strikes in 1 and 8 wake the first. */
@@ -258,6 +277,11 @@ final class EdgeAsk {
         edge.same("no rests", x.hurry(0, 1, 1, 9, 0), 0);
         edge.same("no first", x.hurry(0, 1, 1, 9, 1), -1);
         edge.same("nothing together", x.hurry(0, 1, 1, 9, 2), 0);
+        edge.same("by 0 there is one", x.hurry(0, 1, 0, 9, 0), 1);
+        edge.same("what both sleep by it", x.hurry(0, 1, 0, 9, 2), one[0][0] + other[0][0]);
+        edge.same("no first, whatever was asked ahead", x.hurry(0, 1, 1, 9, 1), -1);
+        x.hurry(0, 1, 0, 9, 0);
+        edge.same("nothing together, whatever was asked ahead", x.hurry(0, 1, 1, 9, 2), 0);
         FirstAsleep y = struck();
         edge.same("the one's choice by hundreds", y.hurry(0, 1, 8, 20, 1), 800);
         edge.same("the other one's by ones", y.hurry(1, 0, 8, 20, 1), 8);
@@ -353,6 +377,13 @@ final class EdgeAsk {
         edge.same("minute", x.fits(0), 1023);
         Check.work(x, "again 20[minute;];call 0;room 0;turn 0;plug 0 9;");
         edge.same("the night does not matter", x.fits(0), 1023);
+        FirstAsleep two = with("sleeper 9 5 1 0;sleeper 8 6 2 0;wine 0 1;wine 1 2;cold 0 3;cold 1 4;", "light + wine * 4 + cold", "");
+        Check.book(two, "3 12;");
+        edge.same("the first one's light, wine and cold", two.fits(0), 1023);
+        edge.same("not the second one's", two.fits(1), 0);
+        Check.book(two, "3 18;");
+        edge.same("not the first one's", two.fits(0), 0);
+        edge.same("the second one's light, wine and cold", two.fits(1), 1023);
     }
 
     private void listen() {
@@ -372,6 +403,13 @@ final class EdgeAsk {
         Check.law(x, 0, "5");
         Check.book(x, "0 5;1 5;2 5;3 5;4 5;5 5;6 5;7 5;");
         edge.same("eight have lines", x.listen(0, 0), 8);
+        edge.same("ten are left", x.listen(0, 1), 10);
+        Check.law(x, 0, "40");
+        Check.book(x, "");
+        edge.same("40 is heard of all ten", x.listen(0, 1), 10);
+        Check.law(x, 0, "35 + snores");
+        edge.same("five of 40", x.listen(0, 1), 5);
+        Check.law(x, 0, "5");
         Check.book(x, "1 5;0 5;3 5;");
         edge.same("two of three", x.listen(0, 0), 2);
         Check.book(x, "5 6;");
@@ -415,6 +453,8 @@ final class EdgeAsk {
         isFraction(x, 15, 4, 12, 151875, 131072);
         isFraction(x, 1, 4, 12, 17, 131072);
         isFraction(x, 12, 1, 3, 9, 8);
+        isFraction(x, 15, 1, 2, 255, 256);
+        isFraction(x, 15, 4, 5, 50625 * 17, 1048576);
     }
 
     private void doctor() {
@@ -470,6 +510,7 @@ final class EdgeAsk {
         FirstAsleep y = Check.of("sleeper 40 0 0 0;");
         edge.same("9 loud: he falls asleep", y.nights(5, 16, 9, 1, 3), 1);
         edge.same("10 loud: he does not", y.nights(5, 16, 10, 1, 3), 0);
+        edge.same("without a car nothing is heard", Check.of("sleeper 4 0 0 0;").nights(5, 0, 40, 1, 3), 1);
         FirstAsleep z = Check.of("sleeper 40 0 0 0;plug 0 2;clock 0 1;");
         edge.same("a clock, a car, less plugs: 9", z.nights(5, 16, 10, 1, 3), 1);
         edge.same("a clock, a car, less plugs: 10", z.nights(5, 16, 11, 1, 3), 0);
@@ -523,6 +564,7 @@ final class EdgeAsk {
         // two sleep from 1 on, both wake in 2, both sleep again: the first
         FirstAsleep z = Check.of(PAIR);
         edge.same("the first of these", z.most(0), 1);
+        edge.same("just tired enough, hearing nothing", Check.of("sleeper 4 0 0 0;").most(0), 1);
     }
 
     private void boundsOfHeads() {
@@ -644,6 +686,10 @@ final class EdgeAsk {
             check.holds("below is above 0 and odd, or above is odd", below > 0 && (below == 1 || above % 2 == 1));
             long sixteenths = (long) q * q * q * (16 + 4 * (16 - q));
             check.holds("the same fraction", above * 65536 == sixteenths * below);
+            above = x.pauses(q, 2, 5, 0);
+            below = x.pauses(q, 2, 5, 1);
+            check.holds("so of three behind two", below > 0 && (below == 1 || above % 2 == 1)
+                && above * 4096 == (long) q * q * (16 + 3 * (16 - q)) * below);
         }
         isFraction(x, 4, 1, 1, 1, 4);
         isFraction(x, 12, 1, 1, 3, 4);
@@ -674,6 +720,10 @@ final class EdgeAsk {
         FirstAsleep y = Check.of(QUIET);
         edge.bounds(y, "wall", 0, 240, n -> y.wall(n));
         edge.same("alike: the least", y.wall(240), 0);
+        // the other one falls asleep only when he hears something: from 18 on he hears nothing
+        FirstAsleep z = with("sleeper 0 20 9 0;sleeper 0 20 0 1;wall 30;", "", "snores + heard");
+        edge.same("a wall too thick is worse", z.wall(20), 0);
+        edge.same("by the wall as it is", z.slept(20), 19);
     }
 
     private void plugs() {
@@ -747,6 +797,10 @@ final class EdgeAsk {
         Check.work(five, "minute;");
         edge.same("all that can be", five.span(0, 20, 16, 0, 239, 0), 239 * 5);
         edge.same("nobody wakes in any", five.span(0, 20, 16, 0, 240, 2), 20);
+        Check.work(five, "minute;minute;");
+        edge.same("what was slept ahead does not count: fewest", five.span(0, 20, 16, 0, 3, 0), 15);
+        edge.same("what was slept ahead does not count: most", five.span(0, 20, 16, 0, 3, 1), 15);
+        edge.same("none at all: most", Check.of(ONE).span(0, 20, 16, 40, 9, 1), 0);
         edge.same("of nobody", new FirstAsleep().span(0, 20, 16, 40, 240, 0), 0);
         edge.same("nobody of nobody wakes", new FirstAsleep().span(0, 20, 16, 40, 240, 2), 20);
     }

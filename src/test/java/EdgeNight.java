@@ -14,6 +14,7 @@ final class EdgeNight {
 
     void run() {
         atFirst();
+        fiveSleepers();
         noiseThroughWalls();
         noiseOfClocksAndPlugs();
         refusedChangesNothing();
@@ -54,6 +55,57 @@ final class EdgeNight {
         edge.same("nobody sleeps", x.told(2), 0);
         edge.same("nobody slept", x.told(3), 0);
         edge.same("nobody woke", x.told(4), 0);
+    }
+
+    private void fiveSleepers() {
+        edge.sentence(10, "Of a SLEEPER: 0 TIRED now, 1 LIGHT, 2 SNORES, 3 ROOM now, 4 DEPTH (0: awake), 5 1 on his side, 0 on his back,");
+        FirstAsleep x = Check.of("sleeper 11 20 1 0;sleeper 12 19 2 1;sleeper 13 18 3 0;sleeper 14 17 4 1;sleeper 15 16 5 0;"
+            + "plug 0 20;plug 1 19;plug 2 18;plug 3 17;plug 4 16;owes 0 1;owes 1 2;owes 2 3;owes 3 4;owes 4 5;");
+        all("at first", x, "11 20 1 0 0 0 0 0 20 1", "12 19 2 1 0 0 0 0 19 2", "13 18 3 0 0 0 0 0 18 3",
+            "14 17 4 1 0 0 0 0 17 4", "15 16 5 0 0 0 0 0 16 5");
+        // the fifth falls asleep in minute 0, the fourth in minute 1, .., or later as soon as he can
+        Check.law(x, 1, "minute + snores - 4");
+        Check.work(x, "turn 4;room 3;plug 2 1;turn 1;minute;minute;minute;");
+        all("behind 3 minutes", x, "14 20 1 0 0 0 0 3 20 1", "15 19 2 1 0 1 0 3 19 2", "15 18 3 0 1 0 0 0 1 3",
+            "14 17 4 0 2 0 1 0 17 3", "13 16 5 0 3 1 2 0 16 3");
+        edge.same("sleep, slept, woke", x.told(2) * 10000 + x.told(3) * 100 + x.told(4), 30300);
+        Check.work(x, "call 4;nudge 0 3;room 4;turn 0;plug 4 0;minute;");
+        all("behind 4 minutes", x, "15 20 1 0 0 1 0 4 20 1", "15 19 2 1 1 1 0 0 19 2", "14 18 3 0 2 0 1 0 1 2",
+            "14 17 4 0 1 0 1 0 17 3", "13 16 5 1 1 0 2 0 0 3");
+        edge.same("sleep, slept, woke", x.told(2) * 10000 + x.told(3) * 100 + x.told(4), 40402);
+        Check.work(x, "minute;minute;minute;nudge 0 2;");
+        edge.same("all sleep: none nudges", x.told(6), 1);
+        all("behind 7 minutes", x, "13 20 1 0 3 1 2 0 20 0", "12 19 2 1 4 1 3 0 19 0", "11 18 3 0 5 0 4 0 1 0",
+            "11 17 4 0 4 0 4 0 17 0", "10 16 5 1 4 0 5 0 0 0");
+        edge.same("sleep, slept, woke", x.told(2) * 10000 + x.told(3) * 100 + x.told(4), 51802);
+        int[] loudest = {3, 4, 3, 2, -1};
+        for (int p = 0; p < 5; p++) {
+            edge.same("the loudest for " + p, x.loudest(p), loudest[p]);
+        }
+        edge.same("all sleep on", x.head(4, 30, 3), 15);
+        Check.work(x, "call 0;nudge 0 3;nudge 0 2;minute;");
+        all("behind 8 minutes", x, "13 20 1 0 1 0 2 0 20 0", "11 19 2 1 5 1 4 0 19 0", "10 18 3 0 4 1 5 0 1 0",
+            "10 17 4 0 3 1 5 0 17 0", "9 16 5 1 5 0 6 0 0 0");
+        sidesOfFive(x);
+    }
+
+    /** The second lay down on his side in minute 3, the third and the fourth ahead of minute 7. */
+    private void sidesOfFive(FirstAsleep x) {
+        Check.work(x, "again 4[minute;];");
+        edge.same("behind minute 11", x.sleeper(1, 5) * 100 + x.sleeper(2, 5) * 10 + x.sleeper(3, 5), 111);
+        Check.work(x, "minute;");
+        edge.same("behind minute 12", x.sleeper(1, 5) * 100 + x.sleeper(2, 5) * 10 + x.sleeper(3, 5), 11);
+        Check.work(x, "minute;minute;");
+        edge.same("behind minute 14", x.sleeper(1, 5) * 100 + x.sleeper(2, 5) * 10 + x.sleeper(3, 5), 11);
+        Check.work(x, "minute;");
+        edge.same("behind minute 15", x.sleeper(1, 5) * 100 + x.sleeper(2, 5) * 10 + x.sleeper(3, 5), 0);
+        edge.same("nobody woke meanwhile", x.told(4), 3);
+    }
+
+    private void all(String what, FirstAsleep x, String... due) {
+        for (int p = 0; p < due.length; p++) {
+            edge.is(what + ", sleeper " + p, x, p, due[p]);
+        }
     }
 
     private void noiseThroughWalls() {
@@ -475,6 +527,11 @@ final class EdgeNight {
         edge.same("asleep on his side: depth 1", x.loud(0), 14);
         Check.law(x, 0, "minute * 3 + light");
         edge.same("in minute 2", x.loud(0), 11);
+        Check.law(x, 0, "depth + snores * 9");
+        Check.law(x, 1, "1 - depth");
+        Check.work(x, "minute;minute;");
+        edge.same("the second one's own depth and snores", x.loud(1), 2);
+        edge.same("the first one's", x.loud(0), 21);
     }
 
     private void would() {
@@ -491,6 +548,8 @@ final class EdgeNight {
         edge.same("the most by a law", x.would(9, 9, 9, 9, 99), 9 + 1 + 2 + 3 + 4);
         Check.law(x, 0, "light + minute + 2");
         edge.same("light and minute 0", x.would(9, 9, 9, 9, 99), 2);
+        x.soon(0);
+        edge.same("whatever was asked ahead", x.would(9, 9, 9, 9, 99), 2);
         FirstAsleep nobody = new FirstAsleep();
         edge.same("without sleepers", nobody.would(5, 4, 3, 2, 1), 17);
     }
@@ -544,6 +603,9 @@ final class EdgeNight {
         FirstAsleep alone = Check.of("sleeper 8 20 9 0;");
         Check.work(alone, "minute;");
         edge.same("one alone", alone.loudest(0), -1);
+        FirstAsleep first = Check.of(TWO);
+        Check.work(first, "minute;");
+        edge.same("the first of all", first.loudest(1), 0);
         FirstAsleep side = Check.of(TWO);
         Check.work(side, "turn 0;minute;");
         edge.same("on his side he is silent", side.loudest(1), -1);
@@ -596,6 +658,7 @@ final class EdgeNight {
         edge.same("it is no refusal", x.status(0) + x.status(1), 0);
         // works that were undone are there again by the image
         FirstAsleep y = Check.of(ONE);
+        Check.law(y, 1, "0");
         for (int i = 0; i < 16; i++) {
             Check.work(y, "minute;");
         }
@@ -603,7 +666,9 @@ final class EdgeNight {
         for (int i = 15; i >= 0; i--) {
             edge.same("undo", y.undo(), i);
         }
-        Check.work(y, "turn 0;");
+        for (int i = 0; i < 16; i++) {
+            Check.work(y, "room 0;");
+        }
         edge.same("restore", y.restore(), 0);
         for (int i = 15; i >= 0; i--) {
             edge.same("minute", y.told(1), i + 1);

@@ -313,6 +313,14 @@ final class EdgeTexts {
         edge.same("awake for 0", x.loud(0), 4);
         Check.work(x, "minute;minute;");
         edge.same("awake for 2, loud", x.loud(0), 4);
+        edge.same("he will sleep soon, awake for 3", x.soon(0), 2);
+        edge.same("would, whatever was asked ahead", x.would(0, 0, 0, 0, 0), 4);
+        edge.same("loud, whatever was asked ahead", x.loud(0), 4);
+        Check.law(x, 0, "heard + awake + 5");
+        edge.same("asked ahead", x.soon(0), 2);
+        edge.same("neither for LOUD", x.loud(0), 5);
+        Check.book(x, "0 5;");
+        edge.same("nor for FITS", x.fits(0), 1023);
         edge.same("awake for 2, FALLS", x.changes(0) ? 1 : 0, 0);
         Check.work(x, "minute;");
         edge.same("awake for 3, FALLS", x.changes(0) ? 1 : 0, 1);
@@ -409,6 +417,12 @@ final class EdgeTexts {
         houseIs("wall1;over1;", 0, -1);
         houseIs("WALL 1;", -9, 0);
         houseIs("walL 1;", -9, 0);
+        houseIs("mall 1;", -9, 0);
+        houseIs("walls 1;", -9, 0);
+        houseIs("wallz 1;", -9, 0);
+        houseIs("walla 1;", -9, 0);
+        houseIs(" ".repeat(596) + "walz", -9, 596);
+        houseIs(" ".repeat(596) + "wall", -9, 600);
         houseIs("  wall  1  ;  over  1  ;  ", 0, -1);
         houseIs("sleeper0 0 0 0;wine0 0;", 1, -1);
         lawIs(" least [ 1 , ( 2 ) ] + most [ 3 , 4 ] * 5 ", 1, -1);
@@ -444,6 +458,10 @@ final class EdgeTexts {
         lawIs("   ", -9, 3);
         lawIs("1 + ", -9, 4);
         lawIs("(1", -9, 2);
+        lawIs("1*", -9, 2);
+        lawIs("1*x", -9, 2);
+        lawIs("1/ 2+", -9, 5);
+        lawIs("2*1000", -8, 2);
         lawIs("least", -9, 5);
         lawIs("least[1", -9, 7);
         lawIs("least[1,", -9, 8);
@@ -460,13 +478,25 @@ final class EdgeTexts {
         Check.feed(x, "wall 1;");
         edge.same("six of seven bytes", x.house(6), -9);
         edge.same("their length", x.fault(), 6);
+        Check.feed(x, "wall 1;");
+        edge.same("three of the letters: no word", x.house(3), -9);
+        edge.same("its place", x.fault(), 0);
+        Check.feed(x, "wall 12;");
+        edge.same("one of the digits", x.house(6), -9);
+        edge.same("their length", x.fault(), 6);
     }
 
     private void faultOfThreeKinds() {
         edge.sentence(Edge.TERMS, "2 a number that is none such (an M twice);");
         houseIs("  wall  99;", -8, 8);
         lawIs("wine+ 1000", -8, 6);
-        workIs("turn 7;", -8, 5);
+        for (String word : new String[] {"turn", "room", "call"}) {
+            workIs("minute;" + word + " 2;", -8, 12);
+        }
+        workIs("turn 99999999999;", -8, 5);
+        workIs("nudge 0 2;", -8, 8);
+        workIs("nudge 2 0;", -8, 6);
+        workIs("nudge 1 0;nudge 0 1;", 0, -1);
         bookIs("1 1;2 2; 1 x", -8, 9);
         FirstAsleep nobody = new FirstAsleep();
         edge.same("of no sleepers none is told", Check.work(nobody, "call 0;"), -8);
@@ -493,6 +523,8 @@ final class EdgeTexts {
         lawIs("(((((1)*(1)*(1)))))", 1, -1);
         lawIs("least[(((((1))))),(((((2)))))]", 1, -1);
         lawIs("least[(((((1))))),((((((2))))))]", -7, 23);
+        lawIs("least[((((((1))))))", -7, 11);
+        lawIs("most[least[least[least[least[least[(1", -7, 35);
         workIs("again 1[".repeat(6) + "turn 0;" + "];".repeat(6), 1, -1);
         workIs("again 1[".repeat(7), -7, 48);
         workIs("again 1[".repeat(6) + "];again 1[];" + "];".repeat(5), 0, -1);
@@ -583,10 +615,11 @@ final class EdgeTexts {
         edge.same("nothing to restore", y.restore(), -1);
         edge.same("no LOUD", y.would(9, 0, 0, 0, 0), 18);
         FirstAsleep z = rich();
-        Check.house(z, "sleeper 7 0 0 0;");
+        Check.house(z, "sleeper 4 0 0 0;");
         edge.same("no FALLS", z.changes(0) ? 1 : 0, 1);
         edge.same("no BOOK", z.fits(0), 1023);
-        edge.is("nothing of his night", z, 0, "7 0 0 0 0 0 0 0 0 0");
+        edge.is("nothing of his night", z, 0, "4 0 0 0 0 0 0 0 0 0");
+        houseBehindHouse();
 
         edge.sentence(3, "or the FAULT less 10 (all stays).");
         String[] faulty = {"wall 5", "wall 41;", ONE.repeat(6)};
@@ -617,6 +650,27 @@ final class EdgeTexts {
         edge.same("20 are there", v.count(1), 20);
         edge.same("and can be read", v.house(7), 0);
         edge.same("all of 20", houseOfAllBytes(), 0);
+    }
+
+    private void houseBehindHouse() {
+        FirstAsleep x = new FirstAsleep();
+        String all = "sleeper 4 1 2 1;wine 0 1;cold 0 2;plug 0 3;owes 0 4;wall 5;over 1;";
+        String clocks = "clock 0 1;clock 59 2;clock 7 3;clock 8 4;clock 9 5;clock 10 6;";
+        for (int i = 0; i < 3; i++) {
+            edge.same("six clocks each time", Check.house(x, all + clocks), 1);
+            edge.same("a fault behind them", Check.house(x, clocks + "clock 0 1;"), -7);
+        }
+        edge.same("the least of a house", Check.house(x, "sleeper 4 0 0 0;"), 1);
+        edge.is("nothing is left but what was told", x, 0, "4 0 0 0 0 0 0 0 0 0");
+        edge.same("no wine, no cold", x.loud(0), 0);
+        edge.same("the wall without", x.told(7), 10);
+        for (int minute : new int[] {0, 59, 7, 8, 9, 10, 240}) {
+            edge.same("no clock in " + minute, x.clock(minute), 0);
+        }
+        Check.work(x, "turn 0;again 9[minute;];");
+        edge.same("over without: not yet", x.sleeper(0, 5), 1);
+        Check.work(x, "minute;");
+        edge.same("over without", x.sleeper(0, 5), 0);
     }
 
     private static int houseOfAllBytes() {
