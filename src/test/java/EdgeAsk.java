@@ -206,6 +206,9 @@ final class EdgeAsk {
         Check.work(z, "minute;call 2;");
         edge.same("one who sleeps now is free", z.head(0, 30, 10), 20);
         edge.same("so is he himself", z.head(2, 30, 10), 29);
+        FirstAsleep five = Check.of("sleeper 40 20 0 0;".repeat(5));
+        edge.same("four others", five.head(4, 30, 10), 9);
+        edge.same("four others by 8", five.head(0, 8, 10), 9 + 4);
     }
 
     private void best() {
@@ -326,6 +329,15 @@ final class EdgeAsk {
         FirstAsleep five = Check.of(ONE.repeat(4) + "sleeper 4 0 0 1;");
         Check.work(five, "minute;");
         edge.same("the fifth sleeps in room 1", five.rooms(0, 1), 16);
+        // the second would wake, but for the wall, by him who sleeps in room 0
+        FirstAsleep apart = Check.of("sleeper 60 20 9 0;sleeper 40 0 0 0;wall 17;");
+        Check.law(apart, 1, "tired / 20 - heard / 2");
+        Check.work(apart, "minute;call 1;");
+        edge.same("the second goes", apart.rooms(10, 1), 2);
+        edge.same("and sleeps", apart.rooms(10, 0), 10 + 9);
+        FirstAsleep first = Check.of("sleeper 40 20 0 0;" + ONE.repeat(4));
+        Check.work(first, "minute;");
+        edge.same("the first of five sleeps on", first.rooms(3, 0), 3);
     }
 
     private void turns() {

@@ -353,6 +353,12 @@ final class EdgeNight {
             edge.same("done", Check.work(x, "turn 0;"), 1);
             edge.same("side", x.sleeper(0, 5), side);
         }
+        FirstAsleep second = Check.of(ONE + ONE);
+        for (int side : sides) {
+            edge.same("the second turns", Check.work(second, "turn 1;"), 1);
+            edge.same("his side", second.sleeper(1, 5), side);
+            edge.same("the first one's", second.sleeper(0, 5), 0);
+        }
         Check.law(x, 1, "minute - 3");
         Check.work(x, "again 5[minute;];");
         edge.is("falls asleep as he lies", x, 0, "4 0 0 0 1 1 0 0 0 0");
@@ -379,6 +385,10 @@ final class EdgeNight {
         refused(ONE, "", "plug 0 0;");
         refused(ONE + "plug 0 20;", "", "plug 0 20;");
         refused(ONE, "plug 0 7;", "plug 0 7;");
+        refused(TWO + "plug 0 3;plug 1 4;", "", "plug 1 4;");
+        FirstAsleep second = Check.of(TWO + "plug 0 3;plug 1 4;");
+        edge.same("by 3, as the first", Check.work(second, "plug 1 3;"), 1);
+        edge.same("by 0", Check.work(second, "plug 1 0;"), 1);
         refused("sleeper 40 0 0 0;", "minute;", "plug 0 7;");
         edge.same("by 20", Check.work(x, "plug 0 20;") * 100 + x.sleeper(0, 8), 120);
         edge.same("by 0", Check.work(x, "plug 0 0;") * 100 + x.sleeper(0, 8), 100);
@@ -466,6 +476,11 @@ final class EdgeNight {
         edge.is("needs 0 at least", x, 0, "1 0 0 0 4 1 3 0 0 0");
         Check.work(x, "call 0;minute;");
         edge.is("awake again for a minute", x, 0, "2 0 0 0 0 0 3 1 0 0");
+        // one who is awake has depth 0 in his law, too, however deep another one sleeps
+        FirstAsleep y = Check.of("sleeper 8 20 9 0;sleeper 0 20 0 0;");
+        Check.law(y, 1, "least[1, minute - 2 + snores] - depth");
+        Check.work(y, "again 4[minute;];");
+        edge.same("depth of both", y.sleeper(0, 4) * 10 + y.sleeper(1, 4), 41);
         edge.bounds(x, "sleeper: what", 0, 9, what -> x.sleeper(0, what));
     }
 
@@ -548,7 +563,7 @@ final class EdgeNight {
         edge.same("the most by a law", x.would(9, 9, 9, 9, 99), 9 + 1 + 2 + 3 + 4);
         Check.law(x, 0, "light + minute + 2");
         edge.same("light and minute 0", x.would(9, 9, 9, 9, 99), 2);
-        x.soon(0);
+        x.slept(3);
         edge.same("whatever was asked ahead", x.would(9, 9, 9, 9, 99), 2);
         FirstAsleep nobody = new FirstAsleep();
         edge.same("without sleepers", nobody.would(5, 4, 3, 2, 1), 17);

@@ -307,6 +307,9 @@ final class EdgeTexts {
         edge.same("FALLS hears 9", x.changes(0) ? 1 : 0, 1);
         Check.law(x, 1, "heard - 9");
         edge.same("FALLS hears no more", x.changes(0) ? 1 : 0, 0);
+        edge.same("loud, whatever was asked ahead", x.loud(0), 3);
+        edge.same("FALLS hears it again", x.changes(0) ? 1 : 0, 0);
+        edge.same("would, whatever was asked ahead", x.would(0, 0, 0, 0, 0), 3);
         edge.sentence(Edge.TERMS, "\"awake\" (MINUTES he has been awake one behind the other; 0 for LOUD)");
         Check.law(x, 0, "awake + 4");
         Check.law(x, 1, "awake - 2");
