@@ -11,6 +11,9 @@ import java.util.Random;
 public final class ModelTest {
     private static final String[] LAW_WORDS =
         {"snores", "wine", "cold", "depth", "tired", "heard", "light", "minute", "awake"};
+    /** Bounds that the document names, and what is next to them. */
+    private static final int[] EDGES = {-1, 0, 1, 2, 3, 4, 5, 7, 8, 9, 10, 12, 13, 16, 17, 20, 21, 30, 31, 40, 41, 60, 61,
+        99, 100, 119, 120, 121, 238, 239, 240, 241, Integer.MIN_VALUE, Integer.MAX_VALUE};
     private static final List<Method> FACE = new ArrayList<>();
 
     private final Random random;
@@ -89,6 +92,7 @@ public final class ModelTest {
             case 3: return random.nextInt(20);
             case 4: return random.nextInt(40) == 0 ? random.nextInt() : random.nextInt(18);
             case 5: return random.nextInt(35);
+            case 6: return EDGES[random.nextInt(EDGES.length)];
             default: return random.nextInt(3);
         }
     }
@@ -201,6 +205,10 @@ public final class ModelTest {
 
     private String workText(int deep) {
         StringBuilder b = new StringBuilder();
+        if (deep == 2 && random.nextInt(8) == 0) {
+            // so that the last minute is come to now and then
+            b.append("again ").append(50 + random.nextInt(11)).append("[minute;minute;minute;minute;];");
+        }
         int steps = random.nextInt(6);
         int sleepers = Math.max(1, model.home.sleepers.size());
         for (int i = 0; i < steps; i++) {
