@@ -233,6 +233,11 @@ public final class AskTest {
         check.same("all three", x.inTurns(7, 7), 52);
         FirstAsleep y = Check.of("sleeper 0 0 0 0;sleeper 0 0 0 0;owes 0 59;owes 1 59;");
         check.same("who owes less than an hour listens for nothing", y.inTurns(3, 12), 96);
+        FirstAsleep z = Check.of("sleeper 60 0 0 0;sleeper 60 0 0 1;owes 0 120;owes 1 180;");
+        Check.work(z, "again 60[minute;];again 60[minute;];again 60[minute;];");
+        check.same("what he needs still, behind 179 minutes of sleep", z.sleeper(1, 9), 1);
+        check.same("he owes what he was told to owe", z.inTurns(3, 2), 8 + 5);
+        check.same("the other one, too", z.inTurns(3, 3), 24 - 4);
         check.badArgument("inTurns(3, -1)", () -> x.inTurns(3, -1));
         check.badArgument("inTurns(3, 13)", () -> x.inTurns(3, 13));
         for (int bits : new int[] {0, 1, 2, 4, 8, 9, 11, 15, -1, -5, 1 << 31 | 3}) {
